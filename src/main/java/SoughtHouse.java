@@ -1057,7 +1057,7 @@ public final class SoughtHouse {
         void cut() {
             pieces = 0;
             int at = 0;
-            while (at < tape.length) {
+            for (int k = 0; k < MOST_BYTES && at < tape.length; k++) {
                 int to = at + 1;
                 if (isLetter(at)) {
                     to = wordEnd(at);
@@ -1439,7 +1439,6 @@ public final class SoughtHouse {
 
         void lookForOthers() {
             System.arraycopy(night.seeks, 0, sought, 0, MOST_LODGERS);
-            Arrays.fill(night.seeks, NONE);
             Arrays.fill(seekers, 0);
             int left = torches;
             for (int lodger = 0; lodger < house.lodgers; lodger++) {

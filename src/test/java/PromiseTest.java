@@ -280,7 +280,9 @@ public final class PromiseTest {
             {"seek 1 if 1=1 or;", 16, 0}, {"seek 1 if [1=1", 14, 0}, {"seek 1 if [1=1;seek 1", 14, 0}, {"seek 1 if 1=1]", 13, 0},
             {"seek 1 if []", 11, 0}, {"seek 1 if [1]", 12, 0}, {"seek 1 if [1=1]=1", 15, 0}, {"seek 1 if not", 13, 0},
             {"seek [1]", 5, 0}, {"seek 1 if tired<Other", 16, 0}, {"seek 1 if tired<others", 16, 0}, {"seek 1 if not not 1=1 x", 22, 0},
-            {"seek 1 if not1=1and", 19, 0}, {"seek 1 if 1!1", 11, 0}, {"seek 1\u00ff", 6, 0}, {"seek 1+\u0000", 7, 0},
+            {"seek 1 if not1=1and", 19, 0}, {"seek 1 if 1!1", 11, 0}, {"seek tiredz", 5, 0}, {"seek tireda", 5, 0},
+            {"seek tire", 5, 0}, {"seek 1 if 1>=", 13, 0}, {"seek 1 if 1<=", 13, 0}, {"seek house", 5, 0}, {"seek 1 if 1>", 12, 0},
+            {"seek 1\u00ff", 6, 0}, {"seek 1+\u0000", 7, 0},
             {"seek 1 if " + times("[", 11) + "1=1" + times("]", 11), 20, 2},
             {"seek 1 if " + times("not ", 11) + "1=1", 50, 2},
             {"seek 1 if " + times("not[", 5) + "[1=1", 30, 2},
@@ -437,6 +439,17 @@ public final class PromiseTest {
         due("0 back", y.lodger(0, 3), NONE);
         due("1 back: the least", y.lodger(1, 3), 0);
         due("2 back", y.lodger(2, 3), 1);
+        y = ruled("house 2 7;lodger 5 1;lodger 9 2;count 0", "seek back-1");
+        y.bid(0, 1);
+        y.hour();
+        due("back is 1", y.lodger(1, 3), NONE);
+        y = ruled("house 2 7;lodger 5 1;lodger 9 2;lodger 9 2;count 0;count 1;count 2", "seek 1 if lodger=0 and other=1;seek seekers");
+        for (int h = 0; h < 3; h++) {
+            y.hour();
+            due("0 in HOUR " + h, y.lodger(0, 3), 1);
+            due("nobody seeks 0 or 2 by now, in HOUR " + h, y.lodger(1, 3), NONE);
+            due("0 seeks 1 by now, in HOUR " + h, y.lodger(2, 3), 1);
+        }
         SoughtHouse z = ruled("house 1 7;lodger 0 0;lodger 0 0", "seek 1 if hour=13 and clock=1 and lodger=0");
         hours(z, 13);
         due("not yet", z.lodger(0, 3), NONE);
@@ -522,7 +535,8 @@ public final class PromiseTest {
         due("pay themselves", x.pay(1, 1, 1), NONE);
         due("pay nobody", x.pay(1, 3, 1), NONE);
         due("pay of nobody", x.pay(3, 1, 1), NONE);
-        due("pay all", x.pay(1, 2, 6), 0);
+        due("pay 1", x.pay(1, 2, 1), 5);
+        due("pay all", x.pay(1, 2, 5), 0);
         SoughtHouse y = Check.told("house 1 1;lodger 60 99;lodger 0 99");
         due("pay 99", y.pay(0, 1, 99), 0);
         due("198", y.lodger(1, 1), 198);
@@ -731,7 +745,9 @@ public final class PromiseTest {
         due("41 is", x.torches(2), 1);
         due("0 hours", x.torches(0), NONE);
         due("61 hours", x.torches(61), NONE);
-        due("60 hours", x.torches(60) >= -2 ? 1 : 0, 1);
+        due("60 hours", Check.told("house 9 0;lodger 0 0").torches(60), -2);
+        due("40 hours", Check.told("house 9 0;lodger 0 0").torches(40), 0);
+        due("seven", ruled("house 9 0;lodger 39 0;lodger 0 0", "seek 1 if torches=7 and other=0").torches(2), 7);
         due("by none", Check.told("house 9 0;lodger 40 0;lodger 0 0").torches(1), -2);
         SoughtHouse z = Check.told("house 9 0;lodger 39 0;lodger 39 0;lodger 39 0;lodger 0 0");
         // 0 seeks 1, 1 seeks 0, 2 is OUT in HOUR 1 unless 3 has a torch; 3 seeks 0 then, too
@@ -814,6 +830,11 @@ public final class PromiseTest {
     private static void pennies() {
         SoughtHouse x = Check.told(THREE);
         due("nobody slept", x.pennies(9999, 0), 0);
+        SoughtHouse one = Check.told(THREE);
+        one.bid(0, 1);
+        one.hour();
+        due("one slept", one.pennies(9999, 1), 9999);
+        due("others did not", one.pennies(9999, 0), 0);
         hours(x, 4);
         due("alike: the least", x.pennies(5, 1), 3);
         due("alike", x.pennies(5, 2), 2);
@@ -845,6 +866,7 @@ public final class PromiseTest {
         due("alike", x.rests(1, 1, 3, 0), NONE);
         due("nobody", x.rests(0, 3, 3, 0), NONE);
         due("0 hours", x.rests(0, 1, 0, 0), NONE);
+        due("1 hour", x.rests(0, 1, 1, 0), 4);
         due("20 hours", x.rests(0, 1, 20, 0) >= 0 ? 1 : 0, 1);
         due("21 hours", x.rests(0, 1, 21, 0), NONE);
         due("what 3", x.rests(0, 1, 3, 3), NONE);
@@ -1003,6 +1025,17 @@ public final class PromiseTest {
         due("another house: back to three", x.count(2), 3);
         due("dear, too", x.dear(0, 2), 9);
         due("made anew", x.image(3), 2);
+        x.note(NONE, 0, 0);
+        x.note(2, 2, 1);
+        x.note(4, 0, 1);
+        due("by these NOTES the first RULE alone", x.ruled(0) * 10 + x.ruled(1), 10);
+        x.image(1);
+        x.note(NONE, 0, 0);
+        x.note(0, 1, 0);
+        x.note(1, 1, 0);
+        due("by these NOTES all", x.ruled(0), 3);
+        x.back(1);
+        due("by those NOTES again", x.ruled(0) * 10 + x.ruled(1), 10);
         SoughtHouse y = new SoughtHouse();
         due("without a house", y.image(2), 0);
         Check.house(y, THREE);
