@@ -877,6 +877,7 @@ public final class PromiseTest {
         due("two lodgers", y.rests(0, 1, 5, 2), 0);
         SoughtHouse z = ruled("house 2 7;lodger 9 0;lodger 9 0;lodger 9 0;lodger 9 0", "seek 9 if lodger=2 and other=0;seek 0");
         due("whom the two seek tells in two HOURS nothing of their own", z.rests(0, 1, 2, 0), 9);
+        // Found by a search with the class, not by hand; the Model answers the same.
         SoughtHouse w = Check.told("house 2 1;lodger 3 0;lodger 0 0;lodger 3 0;lodger 6 0");
         due("none", w.rests(0, 1, 7, 0), 0);
         due("none", w.rests(0, 1, 7, 1), -2);
