@@ -140,10 +140,10 @@ public final class SoughtHouse {
 
     public int house() {
         reader.readHouse(told);
+        tape.length = 0;
         if (reader.fault != 0) {
             return ABSENT - reader.fault;
         }
-        tape.length = 0;
         world.house.take(told);
         world.night.begin(told);
         world.notes.size = 0;
@@ -156,10 +156,10 @@ public final class SoughtHouse {
             return NONE;
         }
         reader.readRule(rules[ruleCount + 1]);
+        tape.length = 0;
         if (reader.fault != 0) {
             return ABSENT - reader.fault;
         }
-        tape.length = 0;
         ruleCount++;
         return ruleCount - 1;
     }

@@ -489,8 +489,9 @@ final class Model {
             house = readHouse();
         } catch (Fault f) {
             return -2 - f.number;
+        } finally {
+            tape = new byte[0];
         }
-        tape = new byte[0];
         state = begin();
         notes = new ArrayList<>();
         undo.clear();
@@ -514,8 +515,9 @@ final class Model {
             rules.add(readRule());
         } catch (Fault f) {
             return -2 - f.number;
+        } finally {
+            tape = new byte[0];
         }
-        tape = new byte[0];
         return rules.size() - 1;
     }
 

@@ -195,7 +195,7 @@ public final class PromiseTest {
         hours(x, 4);
         x.note(3, 0, 1);
         due("a fault", Check.house(x, "house 3 2 x"), fault(10, 0));
-        due("the tape stays", x.count(13), 11);
+        due("the tape is empty then", x.count(13), 0);
         due("all stays: HOUR", x.count(5), 4);
         due("all stays: NOTES", x.count(10), 1);
         due("all stays: ACTS", x.count(11), 4);
@@ -237,9 +237,13 @@ public final class PromiseTest {
         for (Object[] f : faults) {
             String text = (String) f[0];
             due("house of '" + text + "'", Check.house(x, text), fault((int) f[1], (int) f[2]));
-            due("the tape stays", x.count(13), text.length());
+            due("the tape is empty then", x.count(13), 0);
         }
         due("no house", x.hour(), NONE);
+        due("of the empty tape", x.house(), fault(0, 0));
+        x.feed(0, 0, 0, 0, 0);
+        due("zeros", x.house(), fault(0, 0));
+        due("fed behind a fault", x.feed(0, 0, 0, 0, 0), 20);
     }
 
     // ---- 5, 6
@@ -253,6 +257,7 @@ public final class PromiseTest {
         due("a seventh", Check.rule(x, "seek 1"), NONE);
         due("its tape stays", x.count(13), 6);
         due("a seventh with a fault", Check.rule(x, "seek"), NONE);
+        due("its tape stays, too", x.count(13), 4);
         due("RULES", x.count(3), 6);
         due("force(5)", x.force(5), NONE);
         due("force(6)", x.force(6), -2);
@@ -298,8 +303,13 @@ public final class PromiseTest {
         for (Object[] f : faults) {
             String text = (String) f[0];
             due("rule of '" + text + "'", Check.rule(x, text), fault((int) f[1], (int) f[2]));
-            due("the tape stays", x.count(13), text.length());
+            due("the tape is empty then", x.count(13), 0);
         }
+        due("no rule", x.count(3), 0);
+        due("of the empty tape", x.rule(), fault(0, 0));
+        x.feed(0, 0, 0, 0, 0);
+        due("zeros", x.rule(), fault(0, 0));
+        due("fed behind a fault", x.feed(0, 0, 0, 0, 0), 20);
         due("twelve clauses", Check.rule(x, twelve), 0);
         due("sixty values and facts", Check.rule(x, sixty), 1);
         due("ten brackets", Check.rule(x, "seek 1 if " + times("[", 10) + "1=1" + times("]", 10)), 2);
