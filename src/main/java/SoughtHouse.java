@@ -643,15 +643,16 @@ public final class SoughtHouse {
         return what == 0 ? best : fewest;
     }
 
-    /** By places among the rules, as bits; lays who is in at each hour by each of the rules into what is seen. */
+    /** By places among the rules, as bits; lays who is in behind each HOUR by each of the rules into what is seen. */
     private int fittingRules() {
         int fitting = 0;
         for (int k = 0; k <= ruleCount; k++) {
             int from = k * SEEN_HOURS;
             walk.beginAsTold(rules[k]);
             for (int at = 0; at < SEEN_HOURS; at++) {
-                seen[from + at] = walk.night.inside;
+                // Behind HOUR 0 the first of all is over.
                 walk.passHours(1);
+                seen[from + at] = walk.night.inside;
             }
             if (world.notes.areSo(seen, from)) {
                 fitting |= 1 << k;

@@ -842,11 +842,13 @@ final class Model {
         return notes.size();
     }
 
-    private List<State> fromBegin(int rule) {
+    /** How it stands behind each of the HOURS 0 to 60. */
+    private List<State> behindEach(int rule) {
         List<State> all = new ArrayList<>();
-        all.add(begin());
-        for (int k = 0; k < 60; k++) {
-            all.add(pass(all.get(k), rule, new Wish()));
+        State now = begin();
+        for (int hour = 0; hour <= 60; hour++) {
+            now = pass(now, rule, new Wish());
+            all.add(now);
         }
         return all;
     }
@@ -854,7 +856,7 @@ final class Model {
     private List<Integer> fitting() {
         List<Integer> fit = new ArrayList<>();
         for (int r = -1; r < rules.size(); r++) {
-            List<State> all = fromBegin(r);
+            List<State> all = behindEach(r);
             if (notes.stream().allMatch(t -> all.get(t.n).in[t.lodger] == (t.in == 1))) {
                 fit.add(r);
             }
@@ -874,7 +876,7 @@ final class Model {
         if (house == null || !within(what, 0, 1)) {
             return -1;
         }
-        List<List<State>> nights = fitting().stream().map(this::fromBegin).toList();
+        List<List<State>> nights = fitting().stream().map(this::behindEach).toList();
         if (nights.isEmpty()) {
             return -2;
         }

@@ -901,13 +901,13 @@ public final class PromiseTest {
         Check.rule(x, "seek otherpence");
         due("no NOTES: both", x.ruled(0), 2);
         due("none first", x.ruled(1), NONE);
-        due("they part behind the second HOUR", x.look(0), 2);
+        due("they part behind HOUR 1", x.look(0), 1);
         due("one each", x.look(1), 1);
         hours(x, 3);
         x.tire(1, 20);
-        due("NOTE", x.note(2, 2, 1), 1);
+        due("NOTE", x.note(1, 2, 1), 1);
         due("both", x.ruled(0), 2);
-        due("NOTE", x.note(2, 1, 0), 2);
+        due("NOTE", x.note(1, 1, 0), 2);
         due("the RULE alone", x.ruled(0), 1);
         due("the RULE", x.ruled(1), 0);
         due("nothing parts: the least HOUR", x.look(0), 0);
@@ -940,13 +940,57 @@ public final class PromiseTest {
         Check.rule(y, "seek 1 if lodger=0 and other=1");
         Check.rule(y, "seek 1 if lodger=0 and other=1+hour");
         Check.rule(y, "seek 1 if lodger=0 and other=1+hour*2");
-        // behind 2: 1, 1, 1 and none; behind 3: 1, 2, 3 and none
+        // behind HOUR 1: 1, 1, 1 and by none nobody; behind HOUR 2: 1, 2, 3 and by none 0 and 1
         due("all four", y.ruled(0), 4);
-        due("the third HOUR parts all", y.look(0), 3);
-        due("the third HOUR parts all", y.look(1), 1);
-        due("NOTE", y.note(2, 1, 1), 1);
+        due("HOUR 2 parts all", y.look(0), 2);
+        due("HOUR 2 parts all", y.look(1), 1);
+        due("NOTE", y.note(1, 1, 1), 1);
         due("three", y.ruled(0), 3);
         due("the first", y.ruled(1), 0);
+        firstAndLastNoted();
+    }
+
+    /** HOUR 0 is the first of all, HOUR 60 the last that NOTES tell of. */
+    private static void firstAndLastNoted() {
+        SoughtHouse x = Check.told("house 1 1;lodger 0 0;lodger 9 0");
+        due("NOTE", x.note(0, 1, 0), 1);
+        due("behind HOUR 0 nobody is IN", x.ruled(0), 1);
+        due("NOTE", x.note(1, 1, 1), 2);
+        due("behind HOUR 1 LODGER 1 is IN", x.ruled(0), 1);
+        due("NOTE", x.note(1, 0, 1), 3);
+        due("behind HOUR 1 LODGER 0 is OUT", x.ruled(0), 0);
+        x.note(NONE, 0, 0);
+        Check.rule(x, "seek 0");
+        Check.rule(x, "seek 1 if lodger=0 and hour=59");
+        Check.rule(x, "seek 1 if lodger=0 and hour=60");
+        Check.rule(x, "seek 1 if lodger=1 and hour=0");
+        due("without NOTES all", x.ruled(0), 5);
+        due("by 0, 1 and 2 nobody is IN behind HOUR 1", x.look(0), 1);
+        due("three", x.look(1), 3);
+        due("NOTE", x.note(1, 1, 0), 1);
+        due("NOTE", x.note(1, 0, 0), 2);
+        due("0, 1 and 2", x.ruled(0), 3);
+        due("0 first", x.ruled(1), 0);
+        due("they part behind HOUR 60", x.look(0), 60);
+        due("0 and 2 not", x.look(1), 2);
+        due("NOTE", x.note(60, 1, 1), 3);
+        due("1 alone", x.ruled(0), 1);
+        due("1", x.ruled(1), 1);
+        notedAsItWas();
+    }
+
+    /** Who was IN behind each HOUR by hand is what NOTES of the RULE say. */
+    private static void notedAsItWas() {
+        SoughtHouse x = ruled(THREE, "seek otherpence+othertired%3");
+        for (int hour = 0; hour <= 60; hour++) {
+            int in = x.hour();
+            x.note(NONE, 0, 0);
+            for (int lodger = 0; lodger < 3; lodger++) {
+                x.note(hour, lodger, in >> lodger & 1);
+            }
+            int fits = x.ruled(0);
+            due("HOUR " + hour + " as it was", fits == 1 ? x.ruled(1) : fits == 2 ? 0 : -9, 0);
+        }
     }
 
     // ---- 31, 32
@@ -1037,13 +1081,13 @@ public final class PromiseTest {
         due("dear, too", x.dear(0, 2), 9);
         due("made anew", x.image(3), 2);
         x.note(NONE, 0, 0);
-        x.note(2, 2, 1);
-        x.note(4, 0, 1);
+        x.note(1, 2, 1);
+        x.note(3, 0, 1);
         due("by these NOTES the first RULE alone", x.ruled(0) * 10 + x.ruled(1), 10);
         x.image(1);
         x.note(NONE, 0, 0);
         x.note(0, 1, 0);
-        x.note(1, 1, 0);
+        x.note(0, 2, 0);
         due("by these NOTES all", x.ruled(0), 3);
         x.back(1);
         due("by those NOTES again", x.ruled(0) * 10 + x.ruled(1), 10);
